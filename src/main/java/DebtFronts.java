@@ -52,8 +52,6 @@ public final class DebtFronts {
     private static final int[] KINDS_THAT_ONE_IS = {1, 3, 7, 15, 17, 49};
 
     private final Row[] rows;
-    private final byte[] tape;
-    private int tapeLength;
     private final Reader reader;
     private int latestFault;
     private int latestFinding;
@@ -69,8 +67,7 @@ public final class DebtFronts {
         for (int r = 0; r < ROWS; r++) {
             rows[r] = new Row();
         }
-        tape = new byte[TAPE_MOST];
-        reader = new Reader(tape);
+        reader = new Reader();
         town = new Town();
         foretold = new Town();
         acts = new Acts();
@@ -78,7 +75,7 @@ public final class DebtFronts {
         for (int k = 0; k < IMAGES; k++) {
             images[k] = new Town();
         }
-        asks = new Asks(town);
+        asks = new Asks();
         needs = new int[PEOPLE_MOST];
     }
 
@@ -147,19 +144,19 @@ public final class DebtFronts {
         if (n < 1 || n > FEED_MOST) {
             return BAD;
         }
-        if (tapeLength + n > TAPE_MOST) {
+        if (reader.length + n > TAPE_MOST) {
             return FULL;
         }
         for (int left = n - 1; left >= 0; left--) {
-            tape[tapeLength] = (byte) (w >> (8 * left));
-            tapeLength++;
+            reader.tape[reader.length] = (byte) (w >> (8 * left));
+            reader.length++;
         }
-        return tapeLength;
+        return reader.length;
     }
 
     public int town() {
-        boolean isRead = reader.readsTown(tapeLength);
-        tapeLength = 0;
+        boolean isRead = reader.readsTown();
+        reader.length = 0;
         if (!isRead) {
             latestFault = reader.fault;
             return FAULT_AT - reader.start;
@@ -438,7 +435,7 @@ public final class DebtFronts {
         if (isNoPerson(person) || what < 0 || what > 1) {
             return BAD;
         }
-        return asks.answerOf(person, what);
+        return asks.answerOf(town, person, what);
     }
 
     public int trace(int i) {
@@ -463,7 +460,7 @@ public final class DebtFronts {
             case 5:
                 return town.cashOfAll();
             case 6:
-                return tapeLength;
+                return reader.length;
             default:
                 return BAD;
         }
@@ -904,7 +901,7 @@ public final class DebtFronts {
         }
     }
 
-    /** Reads THE TAPE into a draft, so that a FAULT leaves the TOWN as it is. */
+    /** THE TAPE, read into a draft, so that a FAULT leaves the TOWN as it is. */
     private static final class Reader {
         private static final int END = 0;
         private static final int NAME = 1;
@@ -928,14 +925,13 @@ public final class DebtFronts {
         int taken;
         int fault;
 
-        Reader(byte[] theTape) {
-            tape = theTape;
+        Reader() {
+            tape = new byte[TAPE_MOST];
             draft = new Town();
         }
 
         /** Where it answers false, the TOKEN that begins at start has the fault. */
-        boolean readsTown(int bytes) {
-            length = Math.min(bytes, tape.length);
+        boolean readsTown() {
             end = 0;
             draft.becomesEmpty();
             toNextToken();
@@ -1114,29 +1110,20 @@ public final class DebtFronts {
         /** The longest chain is 12 11 24 22 21 20: nothing told goes deeper. */
         private static final int DEPTH_MOST = 8;
 
-        final Town town;
         final int[] bodies;
         int traced;
 
-        Asks(Town theTown) {
-            town = theTown;
+        Asks() {
             bodies = new int[TRACE_MOST];
         }
 
-        int answerOf(int p, int what) {
+        int answerOf(Town town, int p, int what) {
             traced = 0;
-            return body(what == 0 ? sizeBodyOf(p) : markBodyOf(p), p, 0);
+            int kind = town.kindOf(p);
+            return body(what == 0 ? SIZE_BODIES[kind] : MARK_BODIES[kind], town, p, 0);
         }
 
-        private int sizeBodyOf(int p) {
-            return SIZE_BODIES[town.kindOf(p)];
-        }
-
-        private int markBodyOf(int p) {
-            return MARK_BODIES[town.kindOf(p)];
-        }
-
-        private int body(int number, int p, int depth) {
+        private int body(int number, Town town, int p, int depth) {
             if (depth >= DEPTH_MOST) {
                 return 0;
             }
@@ -1146,23 +1133,23 @@ public final class DebtFronts {
                 case 10:
                     return town.cash[p];
                 case 11:
-                    return body(10, p, next) + body(markBodyOf(p), p, next);
+                    return body(10, town, p, next) + body(MARK_BODIES[town.kindOf(p)], town, p, next);
                 case 12:
-                    return -body(11, p, next);
+                    return -body(11, town, p, next);
                 case 13:
-                    return body(10, p, next) - 100;
+                    return body(10, town, p, next) - 100;
                 case 14:
-                    return 2 * body(13, p, next);
+                    return 2 * body(13, town, p, next);
                 case 20:
                     return p;
                 case 21:
-                    return body(20, p, next) + town.owedBy(p);
+                    return body(20, town, p, next) + town.owedBy(p);
                 case 22:
-                    return body(21, p, next) - 1000;
+                    return body(21, town, p, next) - 1000;
                 case 23:
-                    return body(20, p, next) - body(sizeBodyOf(p), p, next);
+                    return body(20, town, p, next) - body(SIZE_BODIES[town.kindOf(p)], town, p, next);
                 case 24:
-                    return 2 * body(22, p, next);
+                    return 2 * body(22, town, p, next);
                 default:
                     return 0;
             }

@@ -41,7 +41,8 @@ final class ActsTest {
         }
         check.due("99999 at most", x.person(0, 11), 99999);
         check.due("FULL", x.loan(0, 1, 1), Check.FULL);
-        check.due("STATE ahead of FULL", x.loan(0, 1, 999) == Check.FULL && x.person(1, 0) == 999 ? 1 : 0, 1);
+        check.due("FULL by all he has", x.loan(0, 1, 999), Check.FULL);
+        check.due("he has it yet", x.person(1, 0), 999);
         x.loan(1, 0, 1);
         check.due("b has nothing: STATE", x.loan(1, 0, 1), Check.STATE);
         DebtFronts y = Check.townOf("law 1 20;person 0 0 open;person 99 0 open;owes 0 1 999;");

@@ -76,33 +76,28 @@ final class QuarterTest {
         x.loan(0, 1, 4);
         x.quarter(0);
         check.due("who pays a part has it yet", x.person(0, 6), 1);
+        x.loan(1, 0, 1);
         x.loan(0, 1, 20);
         x.pay(0, 1, 20);
         check.due("and outside a quarter", x.person(0, 6), 1);
-        x.loan(0, 1, 30);
-        x.loan(1, 0, 10);
-        x.pay(0, 1, 20);
-        x.pay(1, 0, 10);
-        x.pay(0, 1, 10);
         check.due("owes 10 again", x.person(0, 2), 10);
-        Check.read(x, "law 1 0;person 0 0 open;person 50 0 open;owes 0 1 10;");
-        check.due("nobody in a new town", x.person(0, 6), 0);
-        x.quarter(0);
-        check.due("a loan on top", x.loan(0, 1, 30), 40);
-        check.due("part paid", x.pay(0, 1, 30), 10);
-        x.loan(0, 1, 10);
-        check.due("not all yet", x.pay(0, 1, 10), 10);
         Check.read(x, "law 1 0;person 0 0 open;person 9 0 open;person 50 0 open;owes 0 1 10;");
+        check.due("nobody in a new town", x.person(0, 6), 0);
         x.quarter(0);
         x.loan(0, 2, 40);
         x.pay(0, 1, 10);
         x.pay(0, 2, 30);
-        check.due("owes 10 to 2", x.person(0, 2), 10);
+        check.due("owes 10 to another", x.person(0, 12), 10);
         x.quarter(0);
         check.due("nothing paid again", x.person(0, 6), 1);
         x.loan(1, 2, 1);
         x.quarter(0);
-        check.due("1 pays all at once", x.person(1, 6), 0);
+        check.due("who pays all at once", x.person(1, 6), 0);
+        x.loan(0, 2, 10);
+        x.loan(2, 1, 9);
+        x.loan(0, 2, 10);
+        x.quarter(0);
+        check.due("a part again", x.person(0, 6), 1);
     }
 
     private static void growsAndForgives() {

@@ -42,7 +42,8 @@ final class TextTest {
     private static void readsTowns() {
         DebtFronts x = new DebtFronts();
         check.due("fault at first", x.fault(), 0);
-        check.due("town", Check.read(x, "\n law 20 020 ;\nperson 999 99 hedge;person 000 0open;owes 0 1 999;owes 0 1 1;owes 1 0 7; \n"), 2);
+        check.due("town", Check.read(x, "\n law 20 020 ;\nperson 999 99 hedge;person 000 0open;"
+                + "owes 0 1 999;owes 0 1 1;owes 1 0 7; \n"), 2);
         check.due("no fault yet", x.fault(), 0);
         check.due("CASH", x.person(0, 0), 999);
         check.due("INCOME", x.person(0, 1), 99);
@@ -50,7 +51,8 @@ final class TextTest {
         check.due("open", x.person(1, 5), 0);
         check.due("debts add up", x.person(0, 11), 1000);
         check.due("the other way", x.person(1, 10), 7);
-        check.due("SHADE by UNIT 20", Check.townOf("law 20 0;person 0 0 open;person 0 0 open;owes 0 1 59;").person(0, 3), 2);
+        DebtFronts y = Check.townOf("law 20 0;person 0 0 open;person 0 0 open;owes 0 1 59;");
+        check.due("SHADE by UNIT 20", y.person(0, 3), 2);
         check.due("no blanks but where needed", Check.read(x, "law10 5;person1 2open;"), 1);
     }
 
