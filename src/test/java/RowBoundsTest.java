@@ -340,10 +340,8 @@ final class RowBoundsTest {
         x.drop(8);
         x.fits(8, 0, 0);
         check.due("there were BAD ones alone", x.status(), 0);
-        int[] lanes = {0, 1};
-        for (int row : lanes) {
-            x.row(row, row, 6);
-        }
+        x.row(0, 0, 6);
+        x.row(1, 1, 6);
         int[] due = {1, 0, 2, 0, 5, 0, 4, 0, 1, 0};
         for (int k = 0; k < 10; k++) {
             switch (k) {
