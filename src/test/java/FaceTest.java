@@ -27,6 +27,9 @@ final class FaceTest {
         hasTheConstants();
         namesNoPrivateMethodAlike(DebtFronts.class);
         keepsToTheLanguage();
+        keepsSmall(DebtFronts.class);
+        keepsMethodsShort();
+        makesRoomInConstructorsAlone();
         check.end();
     }
 
@@ -100,5 +103,59 @@ final class FaceTest {
         }
         check.isTrue("no lambda, no method reference", !code.contains("->") && !code.contains("::"));
         check.isTrue("plain signs alone", text.chars().allMatch(c -> c == 10 || c >= 32 && c < 127));
+    }
+
+    /** Rule 11: "the file has at most some twelve classes, and a class some twenty fields beside its constants". */
+    private static void keepsSmall(Class<?> type) {
+        check.isTrue("few classes", type.getDeclaredClasses().length < 12);
+        List<Class<?>> all = new ArrayList<>(List.of(type.getDeclaredClasses()));
+        all.add(type);
+        for (Class<?> one : all) {
+            int fields = 0;
+            for (Field f : one.getDeclaredFields()) {
+                boolean isConstant = Modifier.isStatic(f.getModifiers());
+                fields += isConstant ? 0 : 1;
+                check.isTrue(f + " is final, if static", !isConstant || Modifier.isFinal(f.getModifiers()));
+            }
+            check.isTrue(one + " has few fields", fields <= 20);
+            for (Method m : one.getDeclaredMethods()) {
+                check.isTrue(m + " takes seven at most", m.getParameterCount() <= 7);
+            }
+        }
+    }
+
+    private static List<String> source() throws Exception {
+        return Files.readAllLines(Path.of(System.getProperty("debtfronts.source", "src/main/java/DebtFronts.java")));
+    }
+
+    /** Rule 11: "Methods stay short (some sixty lines)"; a method ends with the brace that stands below its first sign. */
+    private static void keepsMethodsShort() throws Exception {
+        List<String> lines = source();
+        int methods = 0;
+        for (int i = 0; i < lines.size(); i++) {
+            String line = lines.get(i);
+            String blanks = line.substring(0, line.length() - line.stripLeading().length());
+            boolean isIn = blanks.length() == 4 || blanks.length() == 8;
+            if (isIn && line.endsWith(") {") && line.strip().matches("[a-zA-Z\\[\\] ]+\\(.*") && !line.strip().startsWith("if ")
+                    && !line.strip().startsWith("for ") && !line.strip().startsWith("while ")
+                    && !line.strip().startsWith("switch ")) {
+                int end = i;
+                while (end < lines.size() && !lines.get(end).equals(blanks + "}")) {
+                    end++;
+                }
+                methods++;
+                check.isTrue(line.strip() + " is short", end - i < 60);
+            }
+        }
+        check.isTrue("the methods were seen: " + methods, methods > 60);
+    }
+
+    /** All calls of one run live in one room: so no call makes an object. */
+    private static void makesRoomInConstructorsAlone() throws Exception {
+        String text = String.join("\n", source()).replaceAll("(?s)/\\*.*?\\*/", " ").replaceAll("//[^\n]*", " ");
+        String calls = text.replaceAll("(?s)\n    public DebtFronts\\(\\) \\{.*?\n    \\}", "\n")
+                .replaceAll("(?s)\n        [A-Z][A-Za-z]*\\(\\) \\{.*?\n        \\}", "\n");
+        check.isTrue("constructors make objects", text.matches("(?s).*\\bnew\\b.*"));
+        check.isTrue("calls make none", !calls.matches("(?s).*\\bnew\\b.*"));
     }
 }

@@ -208,6 +208,14 @@ final class TextBoundsTest {
         hasFault("la w 1 1;", 0, 1);
         hasFault("la", 0, 1);
         hasFault("LAW 1 1;", 0, 1);
+        String[] words = {"law", "person", "open", "owes"};
+        for (String word : words) {
+            for (int k = 0; k < word.length(); k++) {
+                String odd = word.substring(0, k) + (char) ('x' + k % 2) + word.substring(k + 1);
+                String text = "law 1 1;person 0 0 open;person 0 0 open;owes 0 1 1;";
+                hasFault(text.replaceFirst(word, odd), text.indexOf(word), 1);
+            }
+        }
         hasFault(LAW + "persons 1 1 open;", 9, 1);
         hasFault(LAW + "perso 1 1 open;", 9, 1);
         hasFault(TWO + "owe 0 1 1;", TWO.length(), 1);
